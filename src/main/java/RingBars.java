@@ -3,7 +3,8 @@ import java.util.Arrays;
 /**
  * Bars of wood that ring, their laws and jobs told as texts, and what may be asked of them.
  *
- * <p>Every row that a call needs is made with the object and used again, so that no call makes anything.
+ * <p>Every row that a call needs is made with the object and used again, so that no call makes anything but the
+ * first image.
  */
 public final class RingBars {
     public static final int NONE = -1;
@@ -85,8 +86,8 @@ public final class RingBars {
     private static final int TOO_MANY = 3;
 
     private final World now = new World();
-    private final World kept = new World();
-    private boolean imaged;
+    /** The image; null until one is taken. */
+    private World kept;
     private final int[] tape = new int[TAPE_MOST];
     private int tapeLength;
     private final Reader reader = new Reader();
@@ -486,12 +487,14 @@ public final class RingBars {
 
     public boolean image(boolean taken) {
         if (taken) {
+            if (kept == null) {
+                kept = new World();
+            }
             kept.copyFrom(now);
-            imaged = true;
-        } else if (imaged) {
+        } else if (kept != null) {
             now.copyFrom(kept);
         }
-        return imaged;
+        return kept != null;
     }
 
     public int look(int what) {
@@ -1160,31 +1163,9 @@ public final class RingBars {
 
         private boolean part(int open) {
             int kind = kinds[at];
-            if (kind != NOT && kind != '(') {
-                return comparison();
+            if (kind == NOT || kind == '(') {
+                return open < OPEN_MOST ? opened(kind, open + 1) : refuse(TOO_MANY);
             }
-            if (open >= OPEN_MOST) {
-                return refuse(TOO_MANY);
-            }
-            at++;
-            if (kind == NOT) {
-                if (!part(open + 1)) {
-                    return false;
-                }
-                made.addStep(NOT, 0);
-                return true;
-            }
-            if (!either(open + 1)) {
-                return false;
-            }
-            if (kinds[at] != ')') {
-                return refuse(CANT_STAND);
-            }
-            at++;
-            return true;
-        }
-
-        private boolean comparison() {
             if (!sum()) {
                 return false;
             }
@@ -1200,50 +1181,75 @@ public final class RingBars {
             return true;
         }
 
-        private boolean sum() {
-            if (!term()) {
+        /** What a not or a ( begins; the depth is carried, and part() refuses to go too deep. */
+        private boolean opened(int kind, int open) {
+            at++;
+            if (kind == NOT) {
+                if (!part(open)) {
+                    return false;
+                }
+                made.addStep(NOT, 0);
+                return true;
+            }
+            if (!either(open)) {
                 return false;
             }
-            for (int turn = 0; turn < TAPE_MOST && (kinds[at] == '+' || kinds[at] == '-'); turn++) {
-                int sign = kinds[at];
-                at++;
+            if (kinds[at] != ')') {
+                return refuse(CANT_STAND);
+            }
+            at++;
+            return true;
+        }
+
+        private boolean sum() {
+            int sign = 0;
+            for (int turn = 0; turn < TAPE_MOST; turn++) {
                 if (!term()) {
                     return false;
                 }
-                made.addStep(sign, 0);
+                if (sign != 0) {
+                    made.addStep(sign, 0);
+                }
+                sign = kinds[at];
+                if (sign != '+' && sign != '-') {
+                    return true;
+                }
+                at++;
             }
             return true;
         }
 
         private boolean term() {
-            if (!unit()) {
-                return false;
-            }
-            for (int turn = 0; turn < TAPE_MOST && (kinds[at] == '*' || kinds[at] == '/'); turn++) {
-                int sign = kinds[at];
-                at++;
-                if (!(sign == '*' ? unit() : number(1, 99999))) {
-                    return false;
+            int sign = 0;
+            for (int turn = 0; turn < TAPE_MOST; turn++) {
+                int kind = kinds[at];
+                int value = values[at];
+                if (kind != NUMBER && (sign == '/' || !isUnit(kind))) {
+                    return refuse(CANT_STAND);
+                }
+                if (sign == '/' && value == 0) {
+                    return refuse(OUT_OF_RANGE);
+                }
+                if (sign == '/') {
+                    made.addStep(sign, value);
+                } else {
+                    made.addStep(kind, value);
                 }
                 if (sign == '*') {
                     made.addStep(sign, 0);
-                } else {
-                    made.addStep(sign, values[at - 1]);
                 }
+                at++;
+                sign = kinds[at];
+                if (sign != '*' && sign != '/') {
+                    return true;
+                }
+                at++;
             }
             return true;
         }
 
-        private boolean unit() {
-            int kind = kinds[at];
-            boolean stands = kind == NUMBER
-                || (law ? kind == WAX || kind >= AT && kind <= WET : kind >= LOW && kind <= PASSES);
-            if (!stands) {
-                return refuse(CANT_STAND);
-            }
-            made.addStep(kind, values[at]);
-            at++;
-            return true;
+        private boolean isUnit(int kind) {
+            return law ? kind == WAX || kind >= AT && kind <= WET : kind >= LOW && kind <= PASSES;
         }
     }
 
@@ -1362,8 +1368,10 @@ public final class RingBars {
         int count;
 
         void clear() {
-            Arrays.fill(held, 0);
-            count = 0;
+            if (count > 0) {
+                Arrays.fill(held, 0);
+                count = 0;
+            }
         }
 
         /** A number comes: whether it is new. */

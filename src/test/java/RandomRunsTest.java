@@ -23,11 +23,12 @@ public final class RandomRunsTest {
     private final List<String> told = new ArrayList<>();
     private final int flavour;
     private int calls;
+    private int bars;
     private boolean wrong;
 
     private RandomRunsTest(long seed) {
         random = new Random(seed);
-        flavour = random.nextInt(4);
+        flavour = random.nextInt(7);
     }
 
     public static void main(String[] args) throws Exception {
@@ -57,7 +58,9 @@ public final class RandomRunsTest {
             wrong = true;
             System.out.println(String.join("\n", told) + "\n  .. but " + want + " is due");
         }
-        return want instanceof Integer i ? i : (Boolean) want ? 1 : 0;
+        int answer = want instanceof Integer i ? i : (Boolean) want ? 1 : 0;
+        bars = name.equals("bar") ? Math.max(bars, answer + 1) : bars;
+        return answer;
     }
 
     private int pick(int least, int most) {
@@ -77,35 +80,131 @@ public final class RandomRunsTest {
         return edges[random.nextInt(edges.length)];
     }
 
-    private int bars() throws Exception {
-        return Math.max(0, call("look", 0) - 1);
-    }
-
     private void go() throws Exception {
         begin();
         while (calls < CALLS - 60 && !wrong) {
-            step();
+            if (chance(2)) {
+                focus();
+            } else {
+                step();
+            }
         }
     }
 
-    private void begin() throws Exception {
-        int bars = pick(1, 4);
-        for (int b = 0; b < bars; b++) {
-            call("bar", flavour == 1 ? pick(3, 8) : flavour == 2 ? pick(3, 5) : near(3, 16));
+    /** What a run is mostly about. */
+    private void focus() throws Exception {
+        int bar = pick(0, Math.max(0, bars - 1));
+        switch (flavour) {
+            case 1 -> reachable(bar);
+            case 2 -> heard(bar);
+            case 4 -> choosing();
+            case 5 -> airs(bar);
+            case 6 -> work(bar);
+            default -> step();
         }
-        for (int b = 0; b < bars; b++) {
-            for (int n = pick(0, 8); n > 0; n--) {
-                call("slice", b, pick(0, 5), chance(4) ? pick(1, 4) : pick(1, 40), flavour == 2 ? pick(1, 3) : pick(1, 9),
-                    pick(1, 9));
+    }
+
+    /** Goals that a few passes reach, and the passes asked for. */
+    private void reachable(int bar) throws Exception {
+        call("image", true);
+        for (int n = pick(0, 5); n > 0; n--) {
+            call("shave", bar, pick(0, 4), 1);
+        }
+        int[] tones = {call("tone", bar, 0), call("tone", bar, 1), call("tone", bar, 2)};
+        call("image", false);
+        call("slack", chance(3) ? pick(0, 200) : pick(0, 12));
+        for (int k = 0; k < 3; k++) {
+            call("goal", bar, k, chance(3) ? 0 : Math.min(999999, Math.max(0, tones[k] + pick(-3, 3))));
+        }
+        for (int what = 0; what <= 5; what++) {
+            call("fewest", bar, what);
+        }
+        call("shave", bar, pick(0, 4), pick(1, 2));
+        call("state", bar, pick(2, 4));
+    }
+
+    /** Taps between passes and wax, and what fits them. */
+    private void heard(int bar) throws Exception {
+        if (!chance(4)) {
+            int k = chance(2) ? 0 : pick(0, 2);
+            call("tap", bar, k, call("tone", bar, k));
+        }
+        int most = pick(2, 4);
+        int doubt = chance(2) ? 0 : pick(0, 999);
+        for (int what = 0; what < 2; what++) {
+            call("fits", bar, most, doubt, what);
+        }
+        call("fits", bar, most, doubt, pick(10, 14));
+        if (chance(2)) {
+            call("shave", bar, pick(0, 4), 1);
+        } else {
+            call("wax", bar, pick(0, 4), pick(0, 20));
+        }
+        call("off", pick(-1, 1));
+    }
+
+    private void choosing() throws Exception {
+        call("note", near(1, 999999), near(1, chance(2) ? 99 : 30));
+        call("blank", near(1, 99), near(0, 40));
+        if (chance(3)) {
+            int spread = near(0, 60);
+            for (int what = 0; what <= 8; what++) {
+                call("set", spread, what);
+            }
+        }
+        call("down", near(0, bars));
+        if (chance(10)) {
+            call("image", chance(2));
+        }
+    }
+
+    private void airs(int bar) throws Exception {
+        call("night", near(-20, 50), near(0, 99));
+        call("tube", bar, near(0, 1), chance(3) ? near(1, 9999) : pick(200, 800));
+        int heat = near(-20, 50);
+        int wet = near(0, 99);
+        for (int what = 0; what <= 3; what++) {
+            call("in", bar, heat, wet, what);
+            call("nights", pick(-1, 5), what);
+        }
+        int k = pick(0, 2);
+        call("goal", bar, k, Math.min(999999, call("tone", bar, k) / 100 * pick(60, 101)));
+        call("enough", bar, near(0, 5), k);
+        call("holes", bar, pick(0, 2), pick(1, 4));
+        call("state", bar, 9);
+        call("bar", pick(3, 16));
+    }
+
+    /** Jobs until no more passes are kept. */
+    private void work(int bar) throws Exception {
+        int busy = chance(3) ? bar : 0;
+        call("job", pick(0, 1), busy);
+        call("goal", busy, pick(0, 2), Math.max(0, Math.min(999999, call("tone", busy, 0) - pick(0, 300))));
+        call("state", busy, 1);
+        call("state", busy, 4);
+        call("pass", busy, pick(1, 201), pick(0, 1));
+        call("of", busy, pick(0, 5), 3 * pick(0, 1));
+    }
+
+    private void begin() throws Exception {
+        int first = pick(1, 4);
+        for (int b = 0; b < first; b++) {
+            call("bar", flavour == 1 ? pick(3, 6) : flavour == 2 ? pick(3, 5) : near(3, 16));
+        }
+        for (int b = 0; b < first; b++) {
+            for (int n = flavour == 2 ? 5 : pick(0, 8); n > 0; n--) {
+                int thick = chance(4) ? pick(1, 4) : pick(1, flavour == 6 ? 99 : 40);
+                call("slice", b, flavour == 2 ? n - 1 : pick(0, 5), thick, flavour == 2 ? pick(1, 3) : pick(1, 9), pick(1, 9));
             }
         }
         text(0, 0, flavour == 3 ? law() : fairLaw());
         text(0, 1, chance(2) ? law() : fairLaw());
-        text(1, 0, job());
+        text(1, 0, flavour == 6 ? "arc 0 15 9;arc 2 13 5;arc 0 9 3;shave 1 1;" : job());
+        text(1, 1, flavour == 6 ? "shave 3 1 when low>high or passes<150;wax 2 40;shave 5 2 when not top=0;" : job());
     }
 
     private void step() throws Exception {
-        int bar = near(0, bars());
+        int bar = near(0, Math.max(0, bars - 1));
         switch (random.nextInt(44)) {
             case 0 -> call("bar", near(3, flavour == 1 ? 8 : 16));
             case 1, 2 -> call("slice", bar, near(0, 6), near(1, 99), near(1, flavour == 2 ? 4 : 9), near(1, 9));
@@ -113,7 +212,7 @@ public final class RandomRunsTest {
             case 4 -> call("of", bar, near(0, 8), near(0, 3));
             case 5 -> text(near(0, 1), near(0, 1), chance(2) ? law() : fairLaw());
             case 6 -> text(1, near(0, 3), job());
-            case 7 -> text(random.nextInt(2), near(0, 1), spoilt(chance(2) ? law() : job()));
+            case 7 -> spoiltText();
             case 8 -> call("force", near(0, 1));
             case 9 -> call("tells", near(0, 1), near(0, 2), near(0, 2), bar, near(0, 8));
             case 10 -> call("tone", bar, near(0, 2));
@@ -141,6 +240,11 @@ public final class RandomRunsTest {
             case 42 -> call("enough", bar, near(0, 5), near(0, 2));
             default -> rare();
         }
+    }
+
+    private void spoiltText() throws Exception {
+        boolean law = chance(2);
+        text(law ? 0 : 1, near(0, 1), spoilt(law ? law() : job()));
     }
 
     private void rare() throws Exception {

@@ -550,6 +550,7 @@ public final class RingBars {
         return sums.toneOf(now.law(), k, b, b.thick, b.grain, b.wax);
     }
 
+    // toneNow() is passed over here: a job's calls must not go more than eight deep.
     private boolean isLost(Bar b) {
         for (int k = 0; k < TONES; k++) {
             if (b.goals[k] != 0 && sums.toneOf(now.law(), k, b, b.thick, b.grain, b.wax) < b.goals[k] - now.slack) {
@@ -1432,8 +1433,10 @@ public final class RingBars {
                     fill(sums, law, i, c);
                 }
                 for (int k = 0; k < TONES; k++) {
-                    bends[k] += bend[place(k, i, 0)];
-                    masses[k] += mass[place(k, i, 0)];
+                    if (goals[k] != 0) {
+                        bends[k] += bend[place(k, i, 0)];
+                        masses[k] += mass[place(k, i, 0)];
+                    }
                 }
             }
         }
@@ -1453,7 +1456,7 @@ public final class RingBars {
 
         /** How many passes (their slices are in the row then), or NONE. */
         int find() {
-            if (isNear(true)) {
+            if (isTrueNow()) {
                 return 0;
             }
             for (int length = 1; length <= LONGEST; length++) {
@@ -1469,18 +1472,24 @@ public final class RingBars {
             if (depth >= length || depth >= LONGEST) {
                 return false;
             }
+            boolean last = depth + 1 == length;
             for (int i = 0; i < size; i++) {
-                if (taken[i] < room[i]) {
-                    move(i, 1);
-                    boolean last = depth + 1 == length;
-                    if (isNear(last) && (last || met.add(key) && goOn(depth + 1, length))) {
-                        row[depth] = i;
+                if (taken[i] < room[i] && isNearBehind(i, last)) {
+                    row[depth] = i;
+                    if (last || isReached(i, depth, length)) {
                         return true;
                     }
-                    move(i, -1);
                 }
             }
             return false;
+        }
+
+        /** Whether the row goes on to its end behind a pass that may be done. */
+        private boolean isReached(int i, int depth, int length) {
+            move(i, 1);
+            boolean reached = met.add(key) && goOn(depth + 1, length);
+            move(i, -1);
+            return reached;
         }
 
         private void move(int i, int step) {
@@ -1488,22 +1497,41 @@ public final class RingBars {
             taken[i] += step;
             key += step << (3 * i);
             for (int k = 0; k < TONES; k++) {
-                bends[k] += bend[place(k, i, was + step)] - bend[place(k, i, was)];
-                masses[k] += mass[place(k, i, was + step)] - mass[place(k, i, was)];
+                if (goals[k] != 0) {
+                    int p = place(k, i, was);
+                    bends[k] += bend[p + step] - bend[p];
+                    masses[k] += mass[p + step] - mass[p];
+                }
             }
         }
 
-        /** Not lost, and (if it is asked) true. */
-        private boolean isNear(boolean mustBeTrue) {
+        private boolean isTrueNow() {
+            for (int k = 0; k < TONES; k++) {
+                if (goals[k] != 0 && !isNear(k, bends[k], masses[k], true)) {
+                    return false;
+                }
+            }
+            return true;
+        }
+
+        /** Whether the bar would be not lost (and true, if it must be) behind one more pass of a slice. */
+        private boolean isNearBehind(int i, boolean mustBeTrue) {
             for (int k = 0; k < TONES; k++) {
                 if (goals[k] != 0) {
-                    int far = ratio(bends[k], masses[k]) - goals[k];
-                    if (far < -slack || mustBeTrue && far > slack) {
+                    int p = place(k, i, taken[i]);
+                    int bendThen = bends[k] + bend[p + 1] - bend[p];
+                    int massThen = masses[k] + mass[p + 1] - mass[p];
+                    if (!isNear(k, bendThen, massThen, mustBeTrue)) {
                         return false;
                     }
                 }
             }
             return true;
+        }
+
+        private boolean isNear(int k, int bendSum, int massSum, boolean mustBeTrue) {
+            int far = ratio(bendSum, massSum) - goals[k];
+            return far >= -slack && (!mustBeTrue || far <= slack);
         }
     }
 
@@ -1571,8 +1599,9 @@ public final class RingBars {
             int bends = 0;
             int masses = 0;
             for (int i = 0; i < b.size && i < SLICES; i++) {
-                bends += bend[place(t, i, grains[i])];
-                masses += mass[place(t, i, grains[i])];
+                int p = place(t, i, grains[i]);
+                bends += bend[p];
+                masses += mass[p];
             }
             return ratio(bends, masses);
         }

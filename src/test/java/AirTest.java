@@ -95,6 +95,12 @@ public final class AirTest {
                 Due.is("stopper of a high tone", tried(4, z.tone(0, 0)), z.in(0, 4, 0, 3));
             }
         }
+        for (int aim = 318; aim <= 362; aim++) {
+            RingBars low = plain("bend 0 " + aim + " when at=0;mass 0 1000 when at=0;");
+            for (int heat = -20; heat <= 50; heat++) {
+                Due.is("stopper of " + aim + " in " + heat, tried(heat, aim), low.in(0, heat, 0, 3));
+            }
+        }
         RingBars above = plain("bend 0 99999;mass 0 1 when at=0;");
         Due.is("stopper above all tubes", 1, above.in(0, 0, 0, 3));
     }

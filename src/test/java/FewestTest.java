@@ -5,6 +5,7 @@ public final class FewestTest {
         firstRow();
         neverPast();
         order();
+        weight();
         bounds();
         Due.close();
     }
@@ -54,6 +55,10 @@ public final class FewestTest {
         fewest(x, "with a slice that can't be shaved", 1, 1, 1, 1);
         Due.is("nothing is done", 0, x.state(0, 1));
         Due.is("thick is as it was", 20, x.of(0, 1, 0));
+        RingBars y = plain(4, "bend 0 thick;mass 0 1;");
+        y.slice(0, 0, 1, 5, 5);
+        y.goal(0, 0, 15000);
+        fewest(y, "with a first slice that can't be shaved", 1);
     }
 
     private static void neverPast() {
@@ -92,6 +97,23 @@ public final class FewestTest {
         fewest(y, "of one that a pass lifts", 1);
         y.goal(0, 0, 27333);
         fewestIsNone(y, "of one that would be lost behind the first pass");
+    }
+
+    private static void weight() {
+        // passes of slice 0 take off what bends, passes of slice 1 what weighs
+        RingBars x = plain(3, "bend 0 thick*10 when at=0;mass 0 thick when at=1;");
+        x.slack(0);
+        x.goal(0, 0, 10000);
+        fewest(x, "of what weighs as it is");
+        x.goal(0, 0, 10526);
+        fewest(x, "of what weighs less", 1);
+        x.goal(0, 0, 9500);
+        fewest(x, "of what bends less", 0);
+        // 180 by 19: not by 0 and 0 first, which is 180 by 20
+        x.goal(0, 0, 9473);
+        fewest(x, "of both", 0, 1, 0);
+        x.goal(0, 0, 1);
+        fewestIsNone(x, "of the least goal");
     }
 
     private static void bounds() {

@@ -153,5 +153,14 @@ public final class ImageTest {
         for (int what = 0; what < 8; what++) {
             Due.is("look(" + what + ")", want[what], x.look(what));
         }
+        for (int b = 5; b < 10; b++) {
+            x.bar(16);
+            x.goal(b, 0, b < 8 ? 1 : 30000);
+        }
+        Due.is("look(6) of ten bars", 4, x.look(6));
+        Due.is("look(7) of ten bars", 2, x.look(7));
+        x.night(0, 0);
+        Due.is("WORST of ten bars", 0, x.nights(0, 0));
+        Due.is("TOGETHER of ten bars", 0, x.nights(0, 3));
     }
 }

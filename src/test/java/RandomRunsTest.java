@@ -324,12 +324,13 @@ public final class RandomRunsTest {
     /** A law by which shaving brings tones down a little. */
     private String fairLaw() {
         String[] bends = {"thick*grain", "thick*thick*grain", "thick*(1)", "grain*thick+at", "thick*2+grain*3"};
+        String[] masses = {" 7;", " heavy*10+wax;", " heavy*10+wax;", " thick+heavy*9;", " thick*heavy/3+wax+1;"};
         StringBuilder s = new StringBuilder();
         for (int k = 0; k < pick(1, 3); k++) {
             String bend = bends[random.nextInt(bends.length)].replace("(1)", "3");
             s.append("bend ").append(k).append(' ').append(bend);
             s.append(chance(4) ? " when end>0;" : ";");
-            s.append("mass ").append(k).append(chance(3) ? " 7;" : " heavy*10+wax;");
+            s.append("mass ").append(k).append(masses[random.nextInt(masses.length)]);
         }
         s.append("sway 0 mid-").append(pick(0, 5)).append(";drift heat*").append(pick(0, 40)).append("-wet;");
         return s.length() > 240 ? s.substring(0, s.lastIndexOf(";", 240) + 1) : s.toString();

@@ -9,6 +9,7 @@ public final class TextsTest {
         jobGrammar();
         numbers();
         tooMany();
+        full();
         Due.close();
     }
 
@@ -78,6 +79,13 @@ public final class TextsTest {
         Due.refused(x, 0, "bends 0 1;", 1, 0);
         Due.refused(x, 0, "Bend 0 1;", 1, 0);
         Due.refused(x, 0, "bendX 0 1;", 1, 0);
+        for (String letter : new String[] {"a", "z", "A", "Z"}) {
+            Due.refused(x, 0, "bend" + letter + " 0 1;", 1, 0);
+        }
+        for (String other : new String[] {"`", "{", "@", "[", "_", "\u00e9"}) {
+            Due.refused(x, 0, "bend" + other + " 0 1;", 1, 4);
+        }
+        Due.refused(x, 0, "bend 0 1/1:;", 1, 10);
         Due.refused(x, 0, "ben 0 1;", 1, 0);
         Due.refused(x, 0, "bend 0 thickgrain;", 1, 7);
         Due.refused(x, 0, "bend 0 passesx;", 1, 7);
@@ -185,6 +193,24 @@ public final class TextsTest {
         Due.refused(x, 1, "wax 16 1;", 2, 4);
         Due.refused(x, 1, "wax 0 100;", 2, 6);
         Due.refused(x, 1, "wax 0 1 when low/0=1;", 2, 17);
+    }
+
+    /** Texts of 500 bytes. */
+    private static void full() {
+        RingBars x = new RingBars();
+        x.bar(3);
+        Due.taken(x, 0, "sway 2 1" + "+1".repeat(245) + " ;", 1);
+        Due.is("a long sum", 246, x.tells(1, 2, 2, 0, 0));
+        x = new RingBars();
+        Due.taken(x, 0, "sway 2 1 when 1=1" + " or 1=2".repeat(68) + "      ;", 1);
+        Due.refused(x, 0, "(".repeat(500), 1, 0);
+        Due.refused(x, 0, "drift " + "1+".repeat(247), 1, 500);
+        Due.refused(x, 0, "drift " + " ".repeat(490) + "1234", 1, 500);
+        x = new RingBars();
+        Due.refused(x, 0, "drift " + " ".repeat(490) + "thic", 1, 496);
+        Due.refused(x, 0, "drift 1" + " ".repeat(489) + "when", 1, 500);
+        Due.refused(x, 0, "1".repeat(500), 1, 0);
+        Due.refused(x, 0, "a".repeat(500), 1, 0);
     }
 
     private static void tooMany() {

@@ -1,5 +1,6 @@
 import java.nio.ByteBuffer;
 import java.nio.charset.StandardCharsets;
+import java.util.Arrays;
 
 /** What the tests share: answers that are due, counted, and texts told to an object. */
 final class Due {
@@ -29,15 +30,22 @@ final class Due {
         }
     }
 
-    /** Puts a text (characters 0 to 255) on the tape of an object whose tape is empty. */
-    static void put(RingBars x, String text) {
+    /** A text (characters 0 to 255) as the numbers that feed() takes, five a call. */
+    static int[] numbers(String text) {
         byte[] bytes = text.getBytes(StandardCharsets.ISO_8859_1);
-        byte[] whole = java.util.Arrays.copyOf(bytes, (bytes.length + 19) / 20 * 20);
-        ByteBuffer b = ByteBuffer.wrap(whole);
-        for (int p = 0; p < whole.length; p += 20) {
-            x.feed(b.getInt(), b.getInt(), b.getInt(), b.getInt(), b.getInt());
+        byte[] whole = Arrays.copyOf(bytes, (bytes.length + 19) / 20 * 20);
+        int[] numbers = new int[whole.length / 4];
+        ByteBuffer.wrap(whole).asIntBuffer().get(numbers);
+        return numbers;
+    }
+
+    /** Puts a text on the tape of an object whose tape is empty. */
+    static void put(RingBars x, String text) {
+        int[] n = numbers(text);
+        for (int p = 0; p < n.length; p += 5) {
+            x.feed(n[p], n[p + 1], n[p + 2], n[p + 3], n[p + 4]);
         }
-        x.end(bytes.length);
+        x.end(text.length());
     }
 
     static int law(RingBars x, int k, String text) {

@@ -1,6 +1,4 @@
 import java.lang.reflect.Method;
-import java.nio.ByteBuffer;
-import java.nio.charset.StandardCharsets;
 import java.util.ArrayList;
 import java.util.Arrays;
 import java.util.HashMap;
@@ -308,13 +306,11 @@ public final class RandomRunsTest {
     // ---- texts
 
     private void text(int sort, int k, String text) throws Exception {
-        byte[] bytes = text.getBytes(StandardCharsets.ISO_8859_1);
-        byte[] whole = Arrays.copyOf(bytes, (bytes.length + 19) / 20 * 20);
-        ByteBuffer b = ByteBuffer.wrap(whole);
-        for (int p = 0; p < whole.length; p += 20) {
-            call("feed", b.getInt(), b.getInt(), b.getInt(), b.getInt(), b.getInt());
+        int[] n = Due.numbers(text);
+        for (int p = 0; p < n.length; p += 5) {
+            call("feed", n[p], n[p + 1], n[p + 2], n[p + 3], n[p + 4]);
         }
-        call("end", bytes.length);
+        call("end", text.length());
         told.add("   " + text);
         call("text", sort, k);
         call("fault", 0);

@@ -20,6 +20,7 @@ public final class EdgesOfAirTest {
         worst();
         worstOfSeveral();
         suits();
+        nightsAreAirs();
         apart();
         withoutBars();
         together();
@@ -79,7 +80,10 @@ public final class EdgesOfAirTest {
             String air = "in heat " + a[0] + " and wet " + a[1];
             Due.is("tone " + air, 100 * (10000 - a[0] * 100 - a[1]), x.in(0, a[0], a[1], 0));
             int sounds = 1000 * (3310 + 6 * a[0]) / 500;
-            Due.is("beat " + air, Math.abs(sounds - 100 * (10000 - a[0] * 100 - a[1])), x.in(0, a[0], a[1], 1));
+            for (int what = 1; what <= 2; what++) {
+                Due.is("beat " + air, Math.abs(sounds - 100 * (10000 - a[0] * 100 - a[1])), x.in(0, a[0], a[1], what));
+            }
+            Due.is("stopper " + air, tried(a[0], 100 * (10000 - a[0] * 100 - a[1])), x.in(0, a[0], a[1], 3));
         }
         int[][] none = {{-21, 0}, {51, 0}, {0, -1}, {0, 100}, {MOST, 0}, {LEAST, 0}, {0, MOST}, {0, LEAST}, {-21, 100}};
         for (int[] n : none) {
@@ -323,6 +327,47 @@ public final class EdgesOfAirTest {
         Due.is("SUITS, the worst of tuning 1 being another bar", 0, x.nights(0, 2));
         x.tube(1, 0, 503);
         Due.is("SUITS of both", 0, x.nights(0, 2));
+        // by tuning 0 bar 0 is the worst, by tuning 1 bar 1, which by tuning 0 is better than bar 0 by tuning 1
+        RingBars y = alike(2);
+        y.tube(0, 0, 900);
+        y.tube(1, 0, 300);
+        y.tube(0, 1, 300);
+        y.tube(1, 1, 800);
+        Due.is("WORST by tuning 0", 0, y.nights(0, 0));
+        Due.is("WORST by tuning 1", 1, y.nights(0, 1));
+        Due.is("SUITS, the worst ones being unlike", 1, y.nights(0, 2));
+        y.tube(1, 1, 900);
+        Due.is("SUITS of worst ones that are alike", 0, y.nights(0, 2));
+    }
+
+    /** A night's heat and wet count each for itself: what a night tells is what the same air tells of each bar. */
+    private static void nightsAreAirs() {
+        int[][] airs = {{-20, 0}, {-20, 99}, {50, 0}, {50, 99}, {7, 41}, {41, 7}};
+        String[] drifts = {"heat*100", "wet*100-5000", "heat*90-wet*10", "0-heat-wet*50"};
+        for (String drift : drifts) {
+            RingBars x = lawed(3, "bend 0 thick;mass 0 1;drift " + drift + ";");
+            x.bar(4);
+            x.slice(1, 0, 99, 5, 5);
+            for (int bar = 0; bar < 2; bar++) {
+                x.tube(bar, 0, 170 - 60 * bar);
+                x.tube(bar, 1, 190 - 90 * bar);
+            }
+            for (int n = 0; n < airs.length; n++) {
+                int heat = airs[n][0];
+                int wet = airs[n][1];
+                x.night(heat, wet);
+                int[] worst = new int[2];
+                int[] beat = new int[2];
+                for (int t = 0; t < 2; t++) {
+                    worst[t] = x.in(1, heat, wet, 1 + t) > x.in(0, heat, wet, 1 + t) ? 1 : 0;
+                    beat[t] = x.in(worst[t], heat, wet, 1 + t);
+                    Due.is("WORST by tuning " + t + " in " + heat + ", " + wet + " by " + drift, worst[t], x.nights(n, t));
+                }
+                Due.is("SUITS in " + heat + ", " + wet + " by " + drift, beat[1] < beat[0] ? 1 : 0, x.nights(n, 2));
+                long far = (long) x.in(0, heat, wet, 0) * x.tone(1, 0) - (long) x.in(1, heat, wet, 0) * x.tone(0, 0);
+                Due.is("TOGETHER in " + heat + ", " + wet + " by " + drift, Math.abs(far) / 1000, x.nights(n, 3));
+            }
+        }
     }
 
     private static void apart() {

@@ -94,6 +94,8 @@ public final class EdgesOfImageTest {
         all.put("tap", x -> x.tap(0, 0, 5));
         all.put("tap of bar 1", x -> x.tap(1, 0, 5));
         all.put("holes", x -> x.holes(0, 0, 1));
+        all.put("holes, the first", x -> x.holes(0, 2, 3));
+        all.put("holes, the second", x -> x.holes(0, 1, 2));
         all.put("holes of bar 1", x -> x.holes(1, 1, 2));
         all.put("tube 0", x -> x.tube(0, 0, 111));
         all.put("tube 1", x -> x.tube(0, 1, 111));

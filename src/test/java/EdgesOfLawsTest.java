@@ -21,6 +21,7 @@ public final class EdgesOfLawsTest {
         units();
         noAirButForDrift();
         longTexts();
+        longTextsAgain();
         deepTexts();
         toneOfNoMass();
         toneDownwards();
@@ -280,6 +281,22 @@ public final class EdgesOfLawsTest {
         so("1=2" + " or 1=2".repeat(65) + " or 1=3", false);
         so("1=1" + " and 1=1".repeat(57) + " and 1=2", false);
         so("1=1" + " and 1=1".repeat(57) + " and 2=2", true);
+    }
+
+    /** A text may be as long as the tape each time, also behind others that were as long or that were refused. */
+    private static void longTextsAgain() {
+        RingBars x = new RingBars();
+        x.bar(3);
+        for (int turn = 1; turn <= 4; turn++) {
+            String law = "sway 0 1" + "+1".repeat(240) + "+" + turn + ";";
+            Due.is("a long law, time " + turn, 1, Due.law(x, 0, law));
+            Due.is("what it tells", 241 + turn, x.tells(0, 2, 0, 0, 0));
+            Due.is("a long law with a fault", -1, Due.law(x, 0, law + "x"));
+            Due.is("what it tells yet", 241 + turn, x.tells(0, 2, 0, 0, 0));
+            Due.is("a long job", 1, Due.job(x, 0, "wax 0 " + turn + " when 1" + "+1".repeat(200) + "=201;"));
+            Due.is("job(0, 0)", 0, x.job(0, 0));
+            Due.is("the wax of a long job", turn, x.of(0, 0, 3));
+        }
     }
 
     /** Eight that are open, with something to keep at each. */

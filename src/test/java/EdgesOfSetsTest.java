@@ -356,6 +356,16 @@ public final class EdgesOfSetsTest {
         // a tone that is not above its goal as it is, or that is lost
         x.goal(0, 0, 999999);
         Due.is("enough of a lost bar", 39, x.enough(0, 2, 0));
+        // with thick, grain and heavy as they are
+        RingBars z = lawed(3, "bend 0 thick*1000+grain*100+heavy*10-wax*10 when at=1;mass 0 1000 when at=0;");
+        z.slack(0);
+        z.slice(0, 1, 31, 7, 4);
+        Due.is("tone", 31740, z.tone(0, 0));
+        z.goal(0, 0, 31700);
+        Due.is("enough by what a slice is", 4, z.enough(0, 1, 0));
+        z.goal(0, 0, 31739);
+        Due.is("enough by what a slice is", 1, z.enough(0, 1, 0));
+        Due.is("enough on another slice, never", -1, z.enough(0, 2, 0));
         // less wax than there is on does not count
         RingBars y = lawed(3, "bend 0 1 when at=0 and wax<30;bend 0 100 when at=0;mass 0 1 when at=0;");
         y.goal(0, 0, 50000);

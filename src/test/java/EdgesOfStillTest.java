@@ -5,6 +5,7 @@ public final class EdgesOfStillTest {
 
     public static void main(String[] args) {
         signs();
+        byWhatASliceHas();
         noneToFifteen();
         whatIsAsked();
         stillRefused();
@@ -54,6 +55,26 @@ public final class EdgesOfStillTest {
                     points(x, "of tone " + other, other);
                 }
             }
+        }
+    }
+
+    /** Sway may hang on all that a slice has. */
+    private static void byWhatASliceHas() {
+        String[] words = {"thick", "grain", "heavy", "wax"};
+        for (int what = 0; what < 4; what++) {
+            RingBars x = lawed(5, "sway 0 " + words[what] + "-3;");
+            for (int i = 0; i < 5; i++) {
+                int[] slice = {9 - i, 3, 3, 3};
+                // what counts turns between slices 1 and 2; what does not would turn elsewhere, or nowhere
+                int v = i < 2 ? 2 : 3;
+                slice[what] = v;
+                slice[(what + 1) % 4] = i == 3 ? 2 : 4;
+                x.slice(0, i, slice[0], slice[1], slice[2]);
+                x.wax(0, i, slice[3]);
+            }
+            points(x, "by " + words[what], 0, 1);
+            x.holes(0, 0, 4);
+            Due.is("AMISS by " + words[what], 4, x.state(0, 9));
         }
     }
 

@@ -28,11 +28,13 @@ final class Edge {
         return text.replaceAll("\\s+", " ").trim();
     }
 
-    /** "Terms 2" or "Promise 17" as it stands in the document, blanks made one. */
+    /** "Terms 2", "Promise 17" or another part by its head as it stands in the document, blanks made one. */
     private static String partOf(String name) {
-        String head = name.startsWith("Terms ") ? "==== " + name.substring(6) + "." : "## " + name + ":";
         for (String part : PARTS) {
-            if (part.startsWith(name.equals("Terms") ? "## Terms" : head)) {
+            String head = part.lines().findFirst().orElse("");
+            boolean found = name.startsWith("Terms ") ? head.startsWith("==== " + name.substring(6) + ".")
+                : head.equals("## " + name) || head.startsWith("## " + name + ":");
+            if (found) {
                 return plain(part);
             }
         }

@@ -16,6 +16,7 @@ public final class EdgesOfBarsTest {
         wax();
         noSuchWax();
         of();
+        allCalls();
         Due.close();
     }
 
@@ -240,5 +241,17 @@ public final class EdgesOfBarsTest {
         for (int[] n : none) {
             Edge.refused("of(" + n[0] + ", " + n[1] + ", " + n[2] + ")", -1, y -> y.of(n[0], n[1], n[2]));
         }
+    }
+
+    /** The 512th call is answered as the first one is. */
+    private static void allCalls() {
+        Edge.says("What it is", "An object is used for at most 512 calls after it has been made");
+        RingBars x = new RingBars();
+        x.bar(3);
+        for (int call = 2; call < 511; call++) {
+            Due.is("of(0, 0, 3), call " + call, 0, x.of(0, 0, 3));
+        }
+        Due.is("shave(0, 2, 9), call 511", 1, x.shave(0, 2, 9));
+        Due.is("of(0, 2, 0), call 512", 11, x.of(0, 2, 0));
     }
 }

@@ -335,5 +335,12 @@ public final class EdgesOfFewestTest {
             x.goal(1, 0, 60000);
             Due.is("fewest of none", 0, x.fewest(1, 0));
         }
+        // a goal that is none again does not count, though by it what bends and what weighs had been looked at
+        RingBars y = lawed(3, "bend 0 thick;mass 0 1 when at=0;bend 1 200-thick*5;mass 1 100-thick;");
+        y.goal(0, 0, 59000);
+        y.goal(0, 1, y.tone(0, 1) + 1);
+        none(y, "with a goal of tone 1");
+        y.goal(0, 1, 0);
+        row(y, "when the goal of tone 1 is none again", 0);
     }
 }

@@ -18,6 +18,7 @@ public final class EdgesOfLawsTest {
         noLine();
         sixteenLines();
         readAnew();
+        readAnewShorter();
         units();
         noAirButForDrift();
         longTexts();
@@ -120,6 +121,10 @@ public final class EdgesOfLawsTest {
         sway("9*5/2", 22);
         sway("9/2*5", 20);
         sway("1-9/2", -3);
+        sway("6+3/1", 9);
+        sway("6-3/1", 3);
+        sway("6*3/1+5/1*3", 33);
+        so("6+3/1=9 and 1+1/1=2", true);
     }
 
     private static void heldBend() {
@@ -225,6 +230,22 @@ public final class EdgesOfLawsTest {
             Due.law(x, 1, text + "bend 0 1 1;");
             Due.is("a tone that drifts behind a fault", 5000, x.in(0, 0, 0, 0));
         }
+    }
+
+    /** Nor do sums and conditions that were longer: what stood behind the end of the shorter one. */
+    private static void readAnewShorter() {
+        String[][] pairs = {{"sway 0 8/2;", "sway 0 8;"}, {"sway 0 1 when not 1=1;", "sway 0 8 when 1=1;"},
+            {"sway 0 9-1;", "sway 0 8;"}, {"sway 0 2*2/2;", "sway 0 2*4;"}, {"sway 0 1 when not not 1=2;", "sway 0 8 when 1=1;"}};
+        for (String[] pair : pairs) {
+            RingBars x = lawed(3, pair[0]);
+            Due.is("lines of " + pair[1], 1, Due.law(x, 0, pair[1]));
+            Due.is(pair[1] + " behind " + pair[0], 8, x.tells(0, 2, 0, 0, 0));
+        }
+        RingBars x = lawed(3, "");
+        Due.job(x, 0, "wax 0 5 when not 1=2;");
+        Due.job(x, 0, "wax 0 6 when 1=1;");
+        x.job(0, 0);
+        Due.is("a job behind a longer one", 6, x.of(0, 0, 3));
     }
 
     private static void units() {

@@ -16,6 +16,8 @@ public final class EdgesOfTapsTest {
         sure();
         noFits();
         nextPass();
+        nextPassOfManyNumbers();
+        smallerBehindLarger();
         nextPassOfThinSlices();
         nextPassOfSeveral();
         whatIsAsked();
@@ -289,6 +291,61 @@ public final class EdgesOfTapsTest {
             }
         }
         return best;
+    }
+
+    /** Unlike numbers are counted right where there are many of them, alike ones far apart among them. */
+    private static void nextPassOfManyNumbers() {
+        java.util.Random random = new java.util.Random(5);
+        for (int n = 0; n < 60; n++) {
+            int[] whole = random.ints(5, 1, n < 30 ? 40 : 900).toArray();
+            int[] shaved = random.ints(5, 1, n < 30 ? 40 : 900).toArray();
+            StringBuilder law = new StringBuilder("mass 0 1 when at=0;");
+            for (int i = 0; i < 5; i++) {
+                law.append("bend 0 grain*").append(whole[i]).append(" when at=").append(i).append(" and thick=20;");
+                law.append("bend 0 grain*").append(shaved[i]).append(" when at=").append(i).append(';');
+            }
+            Due.is("next pass of many numbers, " + n, mostUnlike(whole, shaved), lawed(5, law.toString()).fits(0, 4, 0, 1));
+        }
+    }
+
+    private static int mostUnlike(int[] whole, int[] shaved) {
+        int best = -1;
+        int most = 0;
+        for (int i = 0; i < 5; i++) {
+            java.util.Set<Integer> unlike = new java.util.HashSet<>();
+            for (int row = 0; row < 1024; row++) {
+                int tone = 0;
+                for (int s = 0; s < 5; s++) {
+                    tone += (1 + (row >> 2 * s & 3)) * (s == i ? shaved : whole)[s];
+                }
+                unlike.add(tone);
+            }
+            if (unlike.size() > most) {
+                most = unlike.size();
+                best = i;
+            }
+        }
+        return best;
+    }
+
+    /** What was asked of a larger bar before does not count for a smaller one. */
+    private static void smallerBehindLarger() {
+        RingBars x = lawed(5, "bend 0 grain*thick;mass 0 1;");
+        x.bar(3);
+        x.bar(4);
+        for (int bar = 0; bar < 3; bar++) {
+            for (int t = 0; t < 12; t++) {
+                x.tap(bar, 0, 40000);
+            }
+        }
+        // all grains together are twice as many as slices: one row of most 2
+        for (int turn = 0; turn < 2; turn++) {
+            for (int bar = 0; bar < 3; bar++) {
+                Due.is("fits of bar " + bar, 1, x.fits(bar, 2, 0, 0));
+                Due.is("sure of bar " + bar, 2, x.fits(bar, 2, 0, 12));
+                Due.is("next pass of bar " + bar, 0, x.fits(bar, 4, 0, 1));
+            }
+        }
     }
 
     private static void nextPassOfThinSlices() {

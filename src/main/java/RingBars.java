@@ -23,6 +23,7 @@ public final class RingBars {
     private static final int SLACK_MOST = 9999;
     private static final int TAPS_MOST = 12;
     private static final int HEARD_MOST = 9999999;
+    private static final int DOUBT_MOST = 99999;
     private static final int TUNINGS = 2;
     private static final int LENGTH_MOST = 9999;
     private static final int HEAT_LEAST = -20;
@@ -32,7 +33,11 @@ public final class RingBars {
     private static final int NOTES_MOST = 8;
     private static final int BLANKS_MOST = 8;
     private static final int SIZE_MOST = 99;
+    private static final int RING_MOST = 99;
     private static final int FAR_MOST = 999999999;
+    /** What bend and mass are held to, and what sway and drift are, on both sides of 0. */
+    private static final int TOLD_MOST = 99999;
+    private static final int SWAY_MOST = 9999;
 
     private static final int LAWS = 2;
     private static final int JOBS = 4;
@@ -40,6 +45,7 @@ public final class RingBars {
     private static final int FEED_NUMBERS = 5;
     private static final int LINES_MOST = 16;
     private static final int OPEN_MOST = 8;
+    private static final int DIGITS_MOST = 5;
 
     private static final int NO_TELLING = NONE - 99999;
     private static final int NO_TAKING = NONE - 9999999;
@@ -329,7 +335,7 @@ public final class RingBars {
     public int fits(int bar, int most, int doubt, int what) {
         Bar b = barAt(bar);
         if (b == null || b.size > GrainSearch.SLICES || !within(most, 1, GrainSearch.GRAINS)
-                || !within(doubt, 0, 99999)) {
+                || !within(doubt, 0, DOUBT_MOST)) {
             return NONE;
         }
         int i = what - 10;
@@ -432,7 +438,7 @@ public final class RingBars {
     }
 
     public int blank(int length, int ring) {
-        if (!within(length, 1, SIZE_MOST) || !within(ring, 0, 99) || now.blankCount >= BLANKS_MOST) {
+        if (!within(length, 1, SIZE_MOST) || !within(ring, 0, RING_MOST) || now.blankCount >= BLANKS_MOST) {
             return NONE;
         }
         now.blankLength[now.blankCount] = length;
@@ -442,7 +448,7 @@ public final class RingBars {
     }
 
     public int set(int spread, int what) {
-        if (!within(spread, 0, 99) || !within(what, 0, now.noteCount)) {
+        if (!within(spread, 0, RING_MOST) || !within(what, 0, now.noteCount)) {
             return NONE;
         }
         int waste = setSearch.find(now, spread);
@@ -613,18 +619,18 @@ public final class RingBars {
 
     private void doLine(Text job, int l, Bar b) {
         int i = job.first[l];
-        int depth = job.third[l];
+        int amount = job.third[l];
         if (job.word[l] == WAX) {
             if (b.has(i)) {
-                b.wax[i] = job.third[l];
+                b.wax[i] = amount;
             }
         } else if (job.word[l] == SHAVE) {
-            takeOff(b, i, depth);
+            takeOff(b, i, amount);
         } else {
             int last = Math.min(job.second[l], b.size - 1);
             int middle = (i + job.second[l]) / 2;
             for (int s = i; s <= last; s++) {
-                takeOff(b, s, depth - Math.abs(s - middle));
+                takeOff(b, s, amount - Math.abs(s - middle));
             }
         }
     }
@@ -993,7 +999,7 @@ public final class RingBars {
                     while (p < length && isDigit(tape[p])) {
                         p++;
                     }
-                    addToken(p - from <= 5 ? NUMBER : STRAY, numberAt(tape, from, p), from);
+                    addToken(p - from <= DIGITS_MOST ? NUMBER : STRAY, numberAt(tape, from, p), from);
                 } else if (sign != ' ' && sign != '\n') {
                     addToken(isSign(sign) ? sign : STRAY, 0, from);
                 }
@@ -1045,7 +1051,7 @@ public final class RingBars {
 
         private static int numberAt(int[] tape, int from, int to) {
             int number = 0;
-            for (int p = from; p < to && p < from + 5; p++) {
+            for (int p = from; p < to && p < from + DIGITS_MOST; p++) {
                 number = number * 10 + tape[p] - '0';
             }
             return number;
@@ -1293,7 +1299,8 @@ public final class RingBars {
                 if (law.word[l] == word && law.first[l] == tone
                         && (!law.hasWhen(l) || value(law, law.whenFrom[l], law.whenTo[l]) != 0)) {
                     int v = value(law, law.sumFrom[l], law.whenFrom[l]);
-                    return word <= MASS ? Math.max(0, Math.min(v, 99999)) : Math.max(-9999, Math.min(v, 9999));
+                    return word <= MASS ? Math.max(0, Math.min(v, TOLD_MOST))
+                        : Math.max(-SWAY_MOST, Math.min(v, SWAY_MOST));
                 }
             }
             return 0;

@@ -24,7 +24,9 @@ import javax.tools.ToolProvider;
 
 /**
  * Changes RingBars.java in one place at a time and tells which changes no test finds.
- * Arguments: the source, the directory of the tests' classes (without RingBars), the names of the tests.
+ * Arguments: the source, the directory of the tests' classes (without RingBars), the names of the tests; a name may
+ * bring arguments of its own, as RandomRunsTest:1000:500. With -Donly=FILE only changes that FILE tells are tried, with
+ * -Dseconds=N each test has so long before it counts as one that found the change (by not ending).
  */
 @SuppressWarnings({"deprecation", "removal"})
 public final class Mutants {
@@ -39,9 +41,13 @@ public final class Mutants {
         {"tapThick", "tapWax"}, {"tapWax", "tapThick"}, {"low", "high"}, {"high", "top"}, {"bends", "masses"},
         {"masses", "bends"}, {"isLost", "isTrue"}, {"isTrue", "isLost"}, {"noteCount", "blankCount"}};
     private static final String THREAD = "test";
-    private static final long LONGEST = 10_000;
+    private static final long LONGEST = 1000L * Integer.getInteger("seconds", 20);
 
-    private record Mutant(int line, String was, String now, String source) { }
+    private record Mutant(int line, String was, String now, String source) {
+        String told() {
+            return line + ": " + was + "  ->  " + now;
+        }
+    }
 
     private static final class Ended extends SecurityException {
         private static final long serialVersionUID = 1L;
@@ -81,6 +87,7 @@ public final class Mutants {
         quiet();
         Mutants mutants = new Mutants(Files.readString(Path.of(args[0])));
         mutants.makeAll();
+        mutants.keepOnly(System.getProperty("only", ""));
         URL tests = Path.of(args[1]).toUri().toURL();
         List<String> names = Arrays.asList(args).subList(2, args.length);
         ExecutorService pool = Executors.newFixedThreadPool(Runtime.getRuntime().availableProcessors());
@@ -92,8 +99,7 @@ public final class Mutants {
         for (int i = 0; i < ends.size(); i++) {
             if (ends.get(i).get() == null) {
                 left++;
-                Mutant m = mutants.all.get(i);
-                out.println(m.line + ": " + m.was + "  ->  " + m.now);
+                out.println(mutants.all.get(i).told());
             }
         }
         out.println(ends.size() + " mutants, " + left + " that no test finds");
@@ -170,6 +176,13 @@ public final class Mutants {
         }
     }
 
+    private void keepOnly(String file) throws IOException {
+        if (!file.isEmpty()) {
+            List<String> told = Files.readAllLines(Path.of(file));
+            all.removeIf(m -> !told.contains(m.told()));
+        }
+    }
+
     /** By what a mutant was found; null if by nothing. */
     private static String endOf(Mutant m, URL tests, List<String> names) throws Exception {
         Path dir = Files.createTempDirectory("mutant");
@@ -200,7 +213,9 @@ public final class Mutants {
 
     private static boolean passes(ClassLoader loader, String test) {
         try {
-            loader.loadClass(test).getMethod("main", String[].class).invoke(null, (Object) new String[0]);
+            String[] words = test.split(":");
+            String[] told = Arrays.copyOfRange(words, 1, words.length);
+            loader.loadClass(words[0]).getMethod("main", String[].class).invoke(null, (Object) told);
             return true;
         } catch (InvocationTargetException e) {
             return e.getCause() instanceof Ended ended && ended.code == 0;

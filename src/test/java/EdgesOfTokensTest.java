@@ -30,6 +30,7 @@ public final class EdgesOfTokensTest {
         open();
         openNoMore();
         firstByPlace();
+        inAnyPart();
         leastAtOnePlace();
         Due.close();
     }
@@ -417,6 +418,30 @@ public final class EdgesOfTokensTest {
         refused(JOB, "wax 15 100", 2, 7);
         refused(JOB, "wax 15 99", 1, 9);
         refused(JOB, "wax ; 100;", 1, 4);
+    }
+
+    /** What stands before a fault, and what would follow it, change neither the fault nor its place. */
+    private static void inAnyPart() {
+        Edge.says("Terms 1", "2 (at the NUMBER) a part by 0");
+        Edge.says("Terms 1", "(at it) the 9th ( or not that is open");
+        for (String before : List.of("", "1=1 or ", "1=1 and ", "not ", "(", "not(", "1=1 or 1=1 or ", "1=1 or 1=1 and ",
+                "1=1 and 1=1 or ", "(1=1 or ", "(1=1 and ", "not(1=1 or ", "1=1 or not ", "1=1 and (", "(1=1)or ")) {
+            int opened = (int) before.chars().filter(c -> c == '(').count()
+                - (int) before.chars().filter(c -> c == ')').count() + (before.contains("not") ? 1 : 0);
+            int place = HEAD.length() + before.length();
+            for (String behind : List.of("", ";", ")", ");", " or 1=1;", " and 1=1);", " when 1=1;", " 1", "#")) {
+                for (String sum : List.of("1/", "1+1/", "1-1/", "1*1/", "1/1/", "at=1/", "1<1+1/", "1>1*1/")) {
+                    refused(LAW, HEAD + before + sum + "0" + behind, 2, place + sum.length());
+                    refused(LAW, HEAD + before + sum + "at" + behind, 1, place + sum.length());
+                }
+                for (String deep : List.of("(", "not ")) {
+                    String most = deep.repeat(8 - opened);
+                    refused(LAW, HEAD + before + most + "(" + behind, 3, place + most.length());
+                    refused(LAW, HEAD + before + most + "not" + " " + behind, 3, place + most.length());
+                    refused(LAW, HEAD + before + most + "or" + " " + behind, 1, place + most.length());
+                }
+            }
+        }
     }
 
     private static void leastAtOnePlace() {

@@ -170,7 +170,7 @@ public final class GrammarTest {
 
     /** -1 if a token can't stand for a word of the grammar, else the fault that it is then, or 0. */
     private int taken(String token, String word) {
-        boolean number = token.matches("[0-9]{1,5}");
+        boolean number = Character.isDigit(token.charAt(0)) && token.length() <= 5;
         int value = number ? Integer.parseInt(token) : 0;
         switch (word) {
             case "NUMBER": return number ? 0 : -1;
@@ -228,11 +228,12 @@ public final class GrammarTest {
         calls += need;
         Due.put(x, text);
         int[] due = due(text);
-        String call = "text(" + sort + ", 0) of " + text.replace('\n', '|');
         int lines = x.text(sort, 0);
-        Due.is(call, Math.max(due[0], -1), lines);
-        Due.is(call + ": fault(0)", due[0] < 0 ? due[0] + 10 : 0, x.fault(0));
-        Due.is(call + ": fault(1)", due[1], x.fault(1));
+        int fault = due[0] < 0 ? due[0] + 10 : 0;
+        boolean same = lines == Math.max(due[0], -1) && x.fault(0) == fault && x.fault(1) == due[1];
+        // Words are made only where they are needed: there are too many texts for that.
+        Due.is(same ? "" : "text(" + sort + ", 0) of " + text.replace('\n', '|') + " with " + lines + " lines, fault "
+            + x.fault(0) + " at " + x.fault(1) + ", not fault " + fault + " at " + due[1], true, same);
     }
 
     /** All rows of so many tokens or fewer behind a text. */
